@@ -750,7 +750,7 @@ public final class PortraitYears {
         }
 
         boolean isFigure(int sign) {
-            return isWithin(sign, '0', '9');
+            return sign >= '0' && sign <= '9';
         }
 
         boolean failAt(int place, int number) {
@@ -919,12 +919,7 @@ public final class PortraitYears {
             bestLiving = -1;
             bestCells = -1;
             foretellAllWalls(house, d);
-            int ways = power(house.walls, house.pictures);
-            for (int way = 0; way < ways; way++) {
-                if (spread(house, way)) {
-                    weigh(house.pictures);
-                }
-            }
+            hangFrom(house, 0, 0, 0);
         }
 
         void foretellAllWalls(House house, int d) {
@@ -937,36 +932,24 @@ public final class PortraitYears {
             }
         }
 
-        /** Puts the WALLS of one way to hang all into triedWalls; whether there is ROOM for it. */
-        boolean spread(House house, int way) {
-            if (house.walls < 1) {
-                return false;
+        /** Hangs the PICTURES from p on in every way, in the order of the WALLS: so the first of the best stays. */
+        void hangFrom(House house, int p, int living, int cells) {
+            if (p >= house.pictures || p >= MOST_PICTURES) {
+                weigh(living, cells);
+                return;
             }
-            for (int w = 0; w < MOST_WALLS; w++) {
-                crowd[w] = 0;
-            }
-            int rest = way;
-            // The last picture's wall is the way's lowest figure: so ways come in the order of the WALLS.
-            for (int p = house.pictures - 1; p >= 0; p--) {
-                int wall = rest % house.walls;
-                rest /= house.walls;
-                triedWalls[p] = wall;
-                crowd[wall]++;
-                if (crowd[wall] > house.room) {
-                    return false;
+            for (int w = 0; w < house.walls; w++) {
+                if (crowd[w] < house.room) {
+                    int left = behind[p * MOST_WALLS + w];
+                    triedWalls[p] = w;
+                    crowd[w]++;
+                    hangFrom(house, p + 1, living + (left > 0 ? 1 : 0), cells + left);
+                    crowd[w]--;
                 }
             }
-            return true;
         }
 
-        void weigh(int pictures) {
-            int living = 0;
-            int cells = 0;
-            for (int p = 0; p < pictures; p++) {
-                int left = behind[p * MOST_WALLS + triedWalls[p]];
-                living += left > 0 ? 1 : 0;
-                cells += left;
-            }
+        void weigh(int living, int cells) {
             if (living > bestLiving || living == bestLiving && cells > bestCells) {
                 bestLiving = living;
                 bestCells = cells;

@@ -207,5 +207,7 @@ public final class ActsTest {
         x.years(5);
         x.recall(0);
         cells("recalled twice", x, 30, 30, 12, 25, 5);
+        Check.due("no ACT from ahead of it", x.count(6), 0);
+        Check.due("undo", x.undo(), Check.STATE);
     }
 }

@@ -36,6 +36,8 @@ public final class ForetoldTest {
         Check.due("unsigned, YEAR 3, 2 on", x.remains(2, 2), 6);
         Check.due("unsigned, YEAR 3, 5 on", x.remains(2, 5), 6);
         Check.due("unsigned, YEAR 3, 6 on", x.remains(2, 6), 3);
+        x = Check.told("g1,0;w2,0;u1,60,0;");
+        Check.due("unsigned, every YEAR divides", x.remains(0, 7), 60 - 7 * 3);
     }
 
     private static void promise17lives() {
@@ -85,6 +87,9 @@ public final class ForetoldTest {
         x = Check.told("g5,0;w1,1;u9,12,0;s1,1,0;");
         Check.due("none within 99", x.first(0), Check.NONE);
         Check.due("none within 99, when", x.first(1), Check.NONE);
+        x.years(1);
+        Check.due("behind 99, who", x.first(0), 0);
+        Check.due("behind 99, when", x.first(1), 99);
         x = Check.told("g5,0;w1,1;");
         Check.due("none painted", x.first(0), Check.NONE);
     }
@@ -171,6 +176,13 @@ public final class ForetoldTest {
         Check.due("what -1", x.dark(1, -1), Check.BAD);
         Check.due("d 61", x.dark(61, 0), Check.BAD);
         Check.due("d -1", x.dark(-1, 0), Check.BAD);
+        x = Check.told("g1,0;w1,0;w2,9;o1,10,0;o1,10,1;");
+        Check.due("LIGHT 0, not less: LIVES by one CELL", x.dark(9, 1), 1);
+        Check.due("LIGHT 0: all DEAD", x.dark(10, 1), 0);
+        Check.due("LIGHT 0: the first", x.dark(9, 0), 0);
+        x = Check.told("g1,0;w9,9;w9,9;s1,1,0;o1,6,1;");
+        Check.due("the second", x.dark(5, 0), 1);
+        Check.due("the second, both", x.dark(5, 1), 2);
         Check.due("none painted, which", Check.told("g1,1;w1,1;w2,2;").dark(5, 0), 0);
         Check.due("none painted, how many", Check.told("g1,1;w1,1;w2,2;").dark(5, 1), 0);
     }
@@ -240,6 +252,8 @@ public final class ForetoldTest {
         Check.due("29 taken", y.fits(0, 0, 0, 2, 3), 1 << 29);
         Check.fill(y, 0, 30, 30);
         Check.due("30 is beyond", y.fits(0, 0, 0, 2, 3), 0);
+        Check.fill(y, 0, 61);
+        Check.due("more than there are", y.fits(0, 0, 0, 1, 3), 0);
         y.deed(0, 60);
         Check.fill(y, 0, 0);
         Check.due("DEAD: any", y.fits(0, 0, 0, 1, 3), (1 << 30) - 1);
@@ -315,6 +329,8 @@ public final class ForetoldTest {
         Check.due("SEED 1000000", x.drawn(1, 1000000, 0), Check.BAD);
         Check.due("what 2", x.drawn(1, 1, 2), Check.BAD);
         Check.due("what -1", x.drawn(1, 1, -1), Check.BAD);
+        PortraitYears one = Check.told("g1,1;w0,0;s1,60,0;");
+        Check.due("just one painted", one.drawn(3, 1, 1), 60 - 2 - 4 - 3);
         PortraitYears empty = Check.told("g1,1;w1,1;");
         Check.due("none painted, who", empty.drawn(60, 5, 0), 0);
         Check.due("none painted, CELLS", empty.drawn(60, 5, 1), 0);

@@ -220,6 +220,8 @@ public final class HousesTest {
         Check.due("FADES, not cut at 0", x.picture(0, 4), 3);
         x.deed(1, 13);
         Check.due("one CELL", x.picture(1, 1), 1);
+        Check.due("LIVES by one CELL", x.picture(1, 3), 1);
+        Check.due("LIVES by one CELL, bits", x.count(5), 30);
         Check.due("FADES by more", x.picture(1, 4), 4);
     }
 
