@@ -933,7 +933,7 @@ public final class PortraitYears {
         }
 
         /** Hangs the PICTURES from p on in every way, in the order of the WALLS: so the first of the best stays. */
-        void hangFrom(House house, int p, int living, int cells) {
+        private void hangFrom(House house, int p, int living, int cells) {
             if (p >= house.pictures || p >= MOST_PICTURES) {
                 weigh(living, cells);
                 return;
@@ -1145,16 +1145,21 @@ public final class PortraitYears {
 
         int sizeOf(House house, int picture) {
             begun = 0;
-            return give(SIZE_BODIES[house.kinds[picture]], house, picture, 0);
+            return give(bodyFor(house.kinds[picture], SIZE_BODIES), house, picture, 0);
         }
 
         int markOf(House house, int picture) {
             begun = 0;
-            return give(MARK_BODIES[house.kinds[picture]], house, picture, 0);
+            return give(bodyFor(house.kinds[picture], MARK_BODIES), house, picture, 0);
+        }
+
+        /** The BODY that begins for a KIND; the one that is lent, were it none. */
+        int bodyFor(int kind, int[] ofKinds) {
+            return isWithin(kind, PICTURE, ofKinds.length - 1) ? ofKinds[kind] : ofKinds[PICTURE];
         }
 
         /** What a BODY gives. SIZE and MARK within one begin anew at the PICTURE's own KIND. */
-        int give(int body, House house, int p, int depth) {
+        private int give(int body, House house, int p, int depth) {
             if (depth > DEEPEST) {
                 return 0;
             }
@@ -1163,14 +1168,14 @@ public final class PortraitYears {
             int deeper = depth + 1;
             switch (body) {
                 case 10: return house.skills[p];
-                case 11: return give(10, house, p, deeper) + give(MARK_BODIES[kind], house, p, deeper);
+                case 11: return give(10, house, p, deeper) + give(bodyFor(kind, MARK_BODIES), house, p, deeper);
                 case 12: return 0 - give(11, house, p, deeper);
                 case 13: return give(10, house, p, deeper) - 100;
                 case 14: return 2 * give(13, house, p, deeper);
                 case 20: return p;
                 case 21: return give(20, house, p, deeper) + house.cells[p];
                 case 22: return give(21, house, p, deeper) - 1000;
-                case 23: return give(20, house, p, deeper) - give(SIZE_BODIES[kind], house, p, deeper);
+                case 23: return give(20, house, p, deeper) - give(bodyFor(kind, SIZE_BODIES), house, p, deeper);
                 case 24: return 2 * give(21, house, p, deeper);
                 default: return 0;
             }

@@ -22,6 +22,10 @@ public final class FaceTest {
         "\\bprotected\\b", "->", "::", "\\bimport\\b", "\\bpackage\\b", "\\bvar\\b", "\\bSystem\\.(?!arraycopy\\b)",
         "Exact\\b", "\\bhashCode\\b", "\\btoString\\b"};
 
+    /** The head of a method, or of a constructor. */
+    private static final Pattern METHOD = Pattern.compile(
+        "\\n(?<blanks> {4}| {8})(?<is>(?:(?:public|private|static) )*)(?:[\\w\\[\\]]+ )?(?<name>\\w+)\\([^)]*\\) \\{");
+
     public static void main(String[] args) throws Exception {
         theFace();
         theConstants();
@@ -108,5 +112,25 @@ public final class FaceTest {
             Check.holds("made once, with its object: " + line, line.trim().startsWith("final "));
         }
         Check.holds("signs 1 to 127", source.chars().allMatch(sign -> sign > 0 && sign < 128));
+        theMethods(code);
+    }
+
+    /** Methods are short; one that calls itself is private; none inside bears the name of a public one. */
+    private static void theMethods(String code) {
+        Matcher method = METHOD.matcher(code);
+        int methods = 0;
+        while (method.find()) {
+            methods++;
+            String name = method.group("name");
+            String body = code.substring(method.end(), code.indexOf("\n" + method.group("blanks") + "}", method.end()));
+            boolean isOpen = method.group("is").contains("public");
+            boolean callsItself = Pattern.compile("(?<![.\\w])" + name + "\\(").matcher(body).find();
+            Check.holds(name + " has at most sixty lines", body.split("\n").length <= 60);
+            Check.holds(name + " calls itself, and is private", !callsItself || method.group("is").contains("private"));
+            for (String open : FACE) {
+                Check.holds(name + " has a name of its own", isOpen || !open.startsWith(name + "/"));
+            }
+        }
+        Check.holds("methods are found", methods > 100);
     }
 }
